@@ -14,7 +14,8 @@ public final class ModelTest {
 
     private ModelTest(int run) {
         this.run = run;
-        random = new Random(run);
+        // Seeds that lie near one another would all begin alike.
+        random = new Random(run * 0x9E3779B97F4A7C15L);
     }
 
     public static void main(String[] args) {

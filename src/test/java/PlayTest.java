@@ -471,7 +471,12 @@ public final class PlayTest {
 
     private static void staleness() {
         BranchPlay x = new BranchPlay();
+        x.play(2);
+        Due.due("count(2) of no changes", x.count(2), 2);
+        Due.due("release(0, 0) of no changes", x.release(0, 0), 20);
         x.change(0, 1, 1, 9);
+        Due.due("count(2) behind the first change", x.count(2), -1);
+        Due.due("release(0, 0) behind the first change", x.release(0, 0), -9);
         x.change(0, 1, 1, -1);
         for (int way = 0; way < 4; way++) {
             x.play(2);

@@ -7,6 +7,8 @@ public final class WayTest {
         otherFaults();
         latestFault();
         tapeAndWay();
+        whatLiesBehindTheEnd();
+        fullTape();
         wrongNumbers();
         Due.finish();
     }
@@ -151,6 +153,35 @@ public final class WayTest {
         Due.due("rule(1, 2)", x.rule(1, 2), 9);
         Due.due("way(1) of an empty tape", x.way(1), 0);
         Due.due("rule(1, 2) of an empty text", x.rule(1, 2), 2);
+    }
+
+    /** Bytes that end() cut off lie in the room yet, but are no part of the text. */
+    private static void whatLiesBehindTheEnd() {
+        String[] texts = {"hot 51;", "hot 5;", "hots", "hot 5;;", "hot 5;   x"};
+        int[] ends = {5, 5, 3, 6, 9};
+        int[] kinds = {1, 1, 1, 0, 0};
+        for (int i = 0; i < texts.length; i++) {
+            BranchPlay x = new BranchPlay();
+            Due.put(x, texts[i]);
+            x.end(ends[i]);
+            Due.due("way(0) of a part of <" + texts[i] + ">", x.way(0), kinds[i] == 0 ? 1 : -1);
+            Due.due("fault(0) of a part of <" + texts[i] + ">", x.fault(0), kinds[i]);
+            Due.due("fault(1) of a part of <" + texts[i] + ">", x.fault(1), kinds[i] == 0 ? -1 : ends[i]);
+        }
+    }
+
+    private static void fullTape() {
+        good(" ".repeat(594) + "hot 9;", 1, 20, 4, 2, 3, 0, 1, 9, 1);
+        good("hot 9;" + "\n".repeat(594), 1, 20, 4, 2, 3, 0, 1, 9, 1);
+        bad(" ".repeat(595) + "every", 1, 600);
+        bad(" ".repeat(596) + "ever", 1, 596);
+        bad(" ".repeat(595) + "hot 9", 1, 600);
+        bad(" ".repeat(593) + "hot 999", 2, 597);
+        bad(";".repeat(600), 1, 0);
+        bad("x".repeat(600), 1, 0);
+        bad("9".repeat(600), 1, 0);
+        bad("hot" + "9".repeat(597), 1, 3);
+        bad(" ".repeat(592) + "every 4;", 4, 600);
     }
 
     private static void wrongNumbers() {
