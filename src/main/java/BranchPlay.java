@@ -91,6 +91,8 @@ public final class BranchPlay {
 
     public int way(int w) {
         if (!isWay(w)) {
+            // The tape is empty behind every way(), but only one that is read has a fault to tell.
+            tape.length = 0;
             return RANGE;
         }
         int lines = reader.read(tape);

@@ -63,11 +63,11 @@ final class Model {
     }
 
     int way(int w) {
+        String text = tape.toString();
+        tape.setLength(0);
         if (w < 0 || w > 3) {
             return -2;
         }
-        String text = tape.toString();
-        tape.setLength(0);
         int[] rules = USUAL.clone();
         int lines = parse(text, rules);
         if (kind != 0) {

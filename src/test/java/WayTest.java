@@ -7,6 +7,7 @@ public final class WayTest {
         otherFaults();
         latestFault();
         tapeAndWay();
+        tapeBehindRange();
         whatLiesBehindTheEnd();
         fullTape();
         wrongNumbers();
@@ -122,7 +123,7 @@ public final class WayTest {
         Due.due("way(4)", x.way(4), -2);
         Due.due("fault(0) behind RANGE", x.fault(0), 1);
         Due.due("fault(1) behind RANGE", x.fault(1), 0);
-        Due.due("way(0)", x.way(0), -1);
+        Due.due("way(0)", Due.way(x, 0, "every 1;"), -1);
         Due.due("fault(0)", x.fault(0), 2);
         Due.due("fault(1)", x.fault(1), 6);
         Due.due("fault(2)", x.fault(2), -1);
@@ -143,16 +144,39 @@ public final class WayTest {
         Due.due("rule(1, 6) stays", x.rule(1, 6), 3);
         Due.due("rule(1, 7) stays", x.rule(1, 7), 2);
         Due.due("rule(0, 0) is its own", x.rule(0, 0), 20);
-        Due.put(x, "test 9;");
-        Due.due("way(-1)", x.way(-1), -2);
-        Due.due("count(1) behind RANGE", x.count(1), 7);
-        Due.due("way(1) anew", x.way(1), 1);
+        Due.due("way(1) anew", Due.way(x, 1, "test 9;"), 1);
         Due.due("rule(1, 0) is the usual again", x.rule(1, 0), 20);
         Due.due("rule(1, 6) is the usual again", x.rule(1, 6), -1);
         Due.due("rule(1, 7) is the usual again", x.rule(1, 7), 1);
         Due.due("rule(1, 2)", x.rule(1, 2), 9);
         Due.due("way(1) of an empty tape", x.way(1), 0);
         Due.due("rule(1, 2) of an empty text", x.rule(1, 2), 2);
+    }
+
+    /** A way() that is RANGE empties the tape like any other, and leaves ways, fault and play. */
+    private static void tapeBehindRange() {
+        int[] noWays = {-1, 4, Integer.MIN_VALUE, Integer.MAX_VALUE};
+        for (int w : noWays) {
+            BranchPlay x = new BranchPlay();
+            x.play(3);
+            Due.put(x, "test 9;");
+            Due.due("way(" + w + ")", x.way(w), -2);
+            Due.due("count(1) behind way(" + w + ")", x.count(1), 0);
+            Due.due("end(1) behind way(" + w + ")", x.end(1), -1);
+            Due.due("fault(0) behind way(" + w + ")", x.fault(0), 0);
+            Due.due("count(2) behind way(" + w + ")", x.count(2), 3);
+            for (int known = 0; known < 4; known++) {
+                Due.due("rule(" + known + ", 2) behind way(" + w + ")", x.rule(known, 2), 2);
+            }
+            Due.due("feed behind way(" + w + ")", x.feed(0, 0, 0, 0, 0), 20);
+            Due.due("end(0)", x.end(0), 0);
+            Due.due("way(0) behind way(" + w + ")", x.way(0), 0);
+        }
+        BranchPlay full = new BranchPlay();
+        Due.put(full, " ".repeat(600));
+        Due.due("feed of a full tape", full.feed(0, 0, 0, 0, 0), -3);
+        Due.due("way(4) of a full tape", full.way(4), -2);
+        Due.due("feed behind way(4)", full.feed(0, 0, 0, 0, 0), 20);
     }
 
     /** Bytes that end() cut off lie in the room yet, but are no part of the text. */
