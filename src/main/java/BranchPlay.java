@@ -830,7 +830,7 @@ public final class BranchPlay {
             }
         }
 
-        /** The tick of a cut is free, even where the next cut is less than freeze ticks away. */
+        /** The tick of a cut is free, even where the next cut is freeze ticks away or fewer. */
         private boolean isFrozen(int tick) {
             int releaseOfCut = branchIsOpen ? nextRelease + rules[EVERY] : nextRelease;
             int gap = releaseOfCut - rules[AHEAD] - tick;
